@@ -920,10 +920,11 @@ public final class JumpFence {
                 if (orders.setsCellAlone(k)) {
                     int from = Orders.cellOf(orders.first[k]);
                     int to = orders.cell[k];
-                    boolean more = (held[from] & ~held[to]) != 0L || isOdd[from] && !isOdd[to];
-                    held[to] |= held[from];
-                    isOdd[to] |= isOdd[from];
-                    moved |= more;
+                    if ((held[from] & ~held[to]) != 0L || isOdd[from] && !isOdd[to]) {
+                        held[to] |= held[from];
+                        isOdd[to] = isOdd[to] || isOdd[from];
+                        moved = true;
+                    }
                 }
             }
             return moved;
@@ -1052,7 +1053,7 @@ public final class JumpFence {
         }
 
         int valueOf(int atom) {
-            int cell = Orders.cellOf(atom);
+            int cell = atom - Orders.FIRST_CELL;
             return cell >= 0 && cell < CELLS ? cells[cell] : atom;
         }
 
@@ -1590,7 +1591,10 @@ public final class JumpFence {
         private final int[] grades = new int[FIRST_JUMPS];
         private final int[] bestGrades = new int[FIRST_JUMPS];
         private final long[] nextByGrade = new long[FIRST_JUMPS * GRADES];
+        private final boolean[] isUseful = new boolean[FIRST_JUMPS * GRADES];
+        private final long[] narrowest = new long[FIRST_JUMPS];
         private int size;
+        private long doors;
         int best;
 
         Least(Book book, Paths paths) {
@@ -1599,20 +1603,15 @@ public final class JumpFence {
             this.paths = paths;
         }
 
-        /** Goes through all GRADES, the first JUMP's slowest, so of equal ones the least comes first. */
         void search(int power, int harm) {
             best = NONE;
+            doors = paths.doorsFor(harm);
             paths.findNext(power);
             findJumps(power);
-            long doors = paths.doorsFor(harm);
-            int all = 1 << 2 * size;
-            for (int code = 0; code < all; code++) {
-                int cost = costOf(code);
-                if (cost != NONE && (best == NONE || cost < best) && holdsOff(doors)) {
-                    best = cost;
-                    System.arraycopy(grades, 0, bestGrades, 0, FIRST_JUMPS);
-                }
+            for (int k = 0; k < size; k++) {
+                paths.next[jumps[k]] = narrowest[k];
             }
+            choose(0, 0);
         }
 
         int bestGradeOf(int order) {
@@ -1628,34 +1627,59 @@ public final class JumpFence {
             size = 0;
             for (int k = 0; k < orders.size && size < FIRST_JUMPS; k++) {
                 if (orders.isJump(k)) {
-                    for (int grade = 0; grade < GRADES; grade++) {
-                        nextByGrade[size * GRADES + grade] = paths.nextOf(k, grade, power);
-                    }
                     jumps[size] = k;
+                    findChoices(size, power);
                     size++;
                 }
             }
         }
 
-        /** Spreads a code of two bits a JUMP into GRADES: their TICKS; NONE, if one can't be had. */
-        private int costOf(int code) {
-            int cost = 0;
-            for (int k = 0; k < size; k++) {
-                int grade = code >> 2 * (size - 1 - k) & 3;
-                if (grade == BY_WAY && orders.word[jumps[k]] != BACK) {
-                    return NONE;
+        private void findChoices(int k, int power) {
+            int order = jumps[k];
+            narrowest[k] = orders.all();
+            for (int grade = 0; grade < GRADES; grade++) {
+                int at = k * GRADES + grade;
+                nextByGrade[at] = paths.nextOf(order, grade, power);
+                isUseful[at] = (grade < BY_WAY || orders.word[order] == BACK) && !isBeaten(k, grade);
+                if (isUseful[at]) {
+                    narrowest[k] &= nextByGrade[at];
                 }
-                grades[k] = grade;
-                cost += grade == 0 ? 0 : book.ticksOf[grade];
             }
-            return cost;
         }
 
-        private boolean holdsOff(long doors) {
-            for (int k = 0; k < size; k++) {
-                paths.next[jumps[k]] = nextByGrade[k * GRADES + grades[k]];
+        /** Whether a lesser GRADE costs no more and leads nowhere else: then the least has not this one. */
+        private boolean isBeaten(int k, int grade) {
+            long next = nextByGrade[k * GRADES + grade];
+            for (int lesser = 0; lesser < grade; lesser++) {
+                boolean within = (nextByGrade[k * GRADES + lesser] & ~next) == 0L;
+                if (within && book.ticksOf[lesser] <= book.ticksOf[grade]) {
+                    return true;
+                }
             }
-            return (paths.comeTo() & doors) == 0L;
+            return false;
+        }
+
+        /**
+         * Tries the GRADES of JUMP k and of those behind it, which stand at their narrowest meanwhile: what does
+         * not hold then never will. The least GRADES come first, so of equal ones they stay.
+         */
+        private void choose(int k, int cost) {
+            if (best != NONE && cost >= best || (paths.comeTo() & doors) != 0L) {
+                return;
+            }
+            if (k >= size || k >= FIRST_JUMPS) {
+                best = cost;
+                System.arraycopy(grades, 0, bestGrades, 0, FIRST_JUMPS);
+                return;
+            }
+            for (int grade = 0; grade < GRADES; grade++) {
+                if (isUseful[k * GRADES + grade]) {
+                    grades[k] = grade;
+                    paths.next[jumps[k]] = nextByGrade[k * GRADES + grade];
+                    choose(k + 1, cost + book.ticksOf[grade]);
+                }
+            }
+            paths.next[jumps[k]] = narrowest[k];
         }
     }
 

@@ -22,7 +22,7 @@ public final class ModelTest {
     }
 
     public static void main(String[] args) {
-        int runs = args.length > 1 ? Integer.parseInt(args[1]) : 400;
+        int runs = args.length > 1 ? Integer.parseInt(args[1]) : 300;
         long first = args.length > 2 ? Long.parseLong(args[2]) : 0;
         for (long seed = first; seed < first + runs && wrong < 5; seed++) {
             new ModelTest(seed).play();
@@ -187,24 +187,29 @@ public final class ModelTest {
 
     private int someOrder() {
         int n = m.orders.size();
-        return pick(20) == 0 || n == 0 ? pick(44) - 2 : pick(n);
+        return pick(50) == 0 ? wild() : pick(20) == 0 || n == 0 ? pick(44) - 2 : pick(n);
     }
 
     private int someOf(int n) {
-        return pick(20) == 0 || n == 0 ? pick(n + 4) - 2 : pick(n);
+        return pick(50) == 0 ? wild() : pick(20) == 0 || n == 0 ? pick(n + 4) - 2 : pick(n);
+    }
+
+    private int wild() {
+        int[] ends = {Integer.MIN_VALUE, Integer.MAX_VALUE, Integer.MIN_VALUE + 1, -40, 64, 1 << 16, 300, 299};
+        return ends[pick(ends.length)];
     }
 
     private void call() {
         boolean b = pick(3) != 0;
         int o = someOrder();
-        int i = pick(9) - 1;
+        int i = pick(30) == 0 ? wild() : pick(9) - 1;
         int p = someOf(m.powers.size());
         int h = someOf(m.harms.size());
         switch (pick(32)) {
             case 0: same("order " + o + " " + i, () -> x.order(o, i), () -> m.order(o, i)); break;
             case 1: case 2: case 3: case 4: {
                 int j = jump();
-                int g = pick(25) == 0 ? pick(7) - 1 : pick(4);
+                int g = pick(40) == 0 ? wild() : pick(25) == 0 ? pick(7) - 1 : pick(4);
                 same("grade " + j + " " + g, () -> x.grade(j, g), () -> m.grade(j, g));
                 break;
             }
@@ -250,7 +255,7 @@ public final class ModelTest {
             }
             case 22: same("row " + p + " " + h + " " + i, () -> x.row(p, h, i), () -> m.row(p, h, i)); break;
             case 23: same("closed " + p, () -> x.closed(p), () -> m.closed(p)); break;
-            case 24: if (pick(6) == 0) { least(p, h); } break;
+            case 24: if (pick(4) == 0) { least(p, h); } break;
             case 25: same("marks", x::marks, m::marks); break;
             case 26: {
                 int n = pick(6) == 0 ? pick(20) - 1 : 1 + pick(4);
@@ -281,9 +286,9 @@ public final class ModelTest {
     }
 
     private void bend() {
-        int s = pick(25) == 0 ? pick(310) - 4 : pick(7);
-        int c = pick(25) == 0 ? pick(20) - 1 : pick(4) == 0 ? 16 : pick(cells);
-        int n = pick(8) == 0 ? random.nextInt() : pick(size + 2) - 1;
+        int s = pick(40) == 0 ? wild() : pick(25) == 0 ? pick(310) - 4 : pick(7);
+        int c = pick(40) == 0 ? wild() : pick(25) == 0 ? pick(20) - 1 : pick(4) == 0 ? 16 : pick(cells);
+        int n = pick(8) == 0 ? wild() : pick(8) == 0 ? random.nextInt() : pick(size + 2) - 1;
         same("bend " + s + " " + c + " " + n, () -> x.bend(s, c, n), () -> m.bend(s, c, n));
     }
 
@@ -333,7 +338,7 @@ public final class ModelTest {
             case 0: same("image", () -> { x.image(); return 0; }, () -> { m.image(); return 0; }); break;
             case 1: case 2: same("back", x::back, m::back); break;
             case 3: {
-                int n = pick(30) - 3;
+                int n = pick(5) == 0 ? wild() : pick(30) - 3;
                 same("end " + n, () -> x.end(n), () -> m.end(n));
                 break;
             }
