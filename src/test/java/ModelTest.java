@@ -18,7 +18,7 @@ public final class ModelTest {
         this.seed = seed;
         random = new Random(seed);
         cells = 1 + random.nextInt(4);
-        size = 1 + random.nextInt(random.nextInt(4) == 0 ? 40 : 14);
+        size = random.nextInt(8) == 0 ? 40 : 1 + random.nextInt(random.nextInt(4) == 0 ? 40 : 14);
     }
 
     public static void main(String[] args) {

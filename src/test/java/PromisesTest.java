@@ -35,6 +35,7 @@ public final class PromisesTest {
         judge();
         imageAndBack();
         count();
+        forty();
         if (wrong == 0) {
             System.out.println("all promises are kept");
         }
@@ -274,6 +275,18 @@ public final class PromisesTest {
         fault("stop\u00e9", 4);
         fault("kind 1", 0);
         fault("c1", 0);
+        fault("stopz", 0);
+        fault("astop", 0);
+        fault("stop`", 4);
+        fault("stop{", 4);
+        fault("jump 1/", 6);
+        fault("jump 1:", 6);
+        fault(";".repeat(400), 0);
+        fault("jump 1" + " ".repeat(394), NONE);
+        fault("jump" + " ".repeat(396), 400);
+        fault("stop;".repeat(39) + "stop", NONE);
+        fault("stop;".repeat(40) + "stop", 200);
+        fault("stop;".repeat(79) + "stop;", 200);
     }
 
     private static void orderAndGrade() {
@@ -548,6 +561,12 @@ public final class PromisesTest {
         runs(z, true, 0, 5, 8, 2, 0, 2, NONE, NONE);
         z.bend(3, 16, 0);
         runs(z, true, 1, 3, 4, 3, 0, 1, 1, 0);
+        // the 8th PLACE of the ROW
+        JumpFence full = with("set c0 = c0 + 1;if c0 > 8 jump 4;call 0;stop;back");
+        full.grade(4, 1);
+        runs(full, false, 0, 28, 1, 3, 0, 1, NONE, NONE);
+        full.bend(26, 16, 0);
+        runs(full, true, 1, 26, 0, 4, 0, 0, 0, 0);
         // GRADE 3 lets the last one of the SECOND ROW, be it an ORDER or not
         JumpFence w = with("jump 2;back;call 1");
         w.grade(1, 3);
@@ -569,6 +588,7 @@ public final class PromisesTest {
         promise = 20;
         argument("harm(-1)", () -> x.harm(-1));
         argument("harm(1000)", () -> x.harm(1000));
+        due("harm(999)", () -> with().harm(999), 0);
         for (int k = 0; k < 8; k++) {
             int word = k * 142;
             due("harm(" + word + ")", () -> x.harm(word), k);
@@ -628,6 +648,8 @@ public final class PromisesTest {
         reaches("if c0 < 0 jump 2;stop;door 5", 1, false, 5, 1);
         reaches("if c0 = 0 jump 2;door 5;stop", 2, false, 5, 2);
         reaches("if c0 = 0 jump 1;door 5", 0, false, 5, 1);
+        // both ways are one: nothing is bent
+        reaches("if c0 = 1 jump 1;set c2 = c0;if c2 = 0 jump 4;stop;door 5", 1, false, 5, 1);
         reaches("if c0 < c0 jump 2;stop;door 5", 1, false, 5, 2);
         reaches("if c0 = c0 jump 2;door 5;stop", 1, false, 5, 2);
         bentTo("c0 < 9", 9, true, 8);
@@ -951,7 +973,7 @@ public final class PromisesTest {
         x.ticks(1, 8);
         x.power(3, false);
         x.harm(6);
-        put(x, "entry 0 point c1 at 0;set c2 = 5");
+        put(x, "entry 0 point c1 at 0;set c0 = 5;set c15 = 5");
         x.load();
         put(x, "bad");
         argument("load()", x::load);
@@ -967,7 +989,8 @@ public final class PromisesTest {
         }
         due("order(2, 2)", () -> x.order(2, 2), 1);
         due("holds(1)", () -> x.holds(1), 0);
-        due("odd(2)", () -> x.odd(2), false);
+        due("odd(0)", () -> x.odd(0), false);
+        due("odd(15)", () -> x.odd(15), false);
         due("run(true, 0)", () -> x.run(true, 0), 1);
         x.straight();
         due("run(true, 2)", () -> x.run(true, 2), 7);
@@ -980,6 +1003,44 @@ public final class PromisesTest {
         due("back()", x::back, true);
         due("count(0) of a later IMAGE", () -> x.count(0), 4);
         due("count(3) of a later IMAGE", () -> x.count(3), 1);
+    }
+
+    /** All places for ORDERS are used. */
+    private static void forty() {
+        JumpFence x = with(many("entry 1 back", 20), many("entry 1 by c1", 20));
+        promise = 32;
+        int[] dues = {40, 40, 0, 0, 0, 0, 40, 0, 0, 0, NONE};
+        for (int k = 0; k < dues.length; k++) {
+            int what = k;
+            due("count(" + k + ")", () -> x.count(what), dues[k]);
+        }
+        x.power(65535, true);
+        x.harm(1);
+        promise = 23;
+        due("closed(0)", () -> x.closed(0), (1L << 40) - 1);
+        promise = 9;
+        due("landings(0, false)", () -> x.landings(0, false), (1L << 40) - (1L << 21));
+        due("landings(39, false)", () -> x.landings(39, false), 0);
+        promise = 27;
+        due("fence(39, 39, 0, 0)", () -> x.fence(39, 39, 0L, 0), 0);
+        promise = 24;
+        due("least(0, 0, NONE)", () -> x.least(0, 0, NONE), 0);
+        promise = 21;
+        due("reach(0, 0)", () -> x.reach(0, 0), 0);
+        promise = 25;
+        for (int k = 0; k < 40; k++) {
+            x.grade(k, 1);
+        }
+        due("marks(), 20 that meet and 20 that let nothing", x::marks, 21);
+        promise = 26;
+        due("joined(1)", () -> x.joined(1), 0);
+        promise = 22;
+        JumpFence y = with(many("door 1", 39) + ";door 2");
+        y.power(0, false);
+        y.harm(2);
+        due("row(0, 0, 39)", () -> y.row(0, 0, 39), 39);
+        due("row(0, 0, 40)", () -> y.row(0, 0, 40), NONE);
+        due("reach(0, 0)", () -> y.reach(0, 0), 1);
     }
 
     private static void count() {
@@ -998,6 +1059,10 @@ public final class PromisesTest {
             int what = k;
             due("count(" + k + ")", () -> x.count(what), dues[k]);
         }
+        put(x, "entry 1 back;bad");
+        argument("load()", x::load);
+        due("count(6) behind a wrong text", () -> x.count(6), 3);
+        due("count(1) behind a wrong text", () -> x.count(1), 3);
         due("count(10)", () -> x.count(10), NONE);
         due("count(-1)", () -> x.count(-1), NONE);
     }
