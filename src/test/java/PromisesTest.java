@@ -275,6 +275,14 @@ public final class PromisesTest {
         fault("stop\u00e9", 4);
         fault("kind 1", 0);
         fault("c1", 0);
+        fault("door c;stop", 6);
+        fault("door c", 6);
+        fault("door c15", NONE);
+        fault("door c16", 6);
+        fault("set c1 = 2 * c16", 14);
+        fault("if c0 < c;stop", 9);
+        fault("entry;stop", 5);
+        fault("entry", 5);
         fault("stopz", 0);
         fault("astop", 0);
         fault("stop`", 4);
@@ -1041,6 +1049,11 @@ public final class PromisesTest {
         due("row(0, 0, 39)", () -> y.row(0, 0, 39), 39);
         due("row(0, 0, 40)", () -> y.row(0, 0, 40), NONE);
         due("reach(0, 0)", () -> y.reach(0, 0), 1);
+        promise = 24;
+        due("least(0, 0, NONE) without JUMPS", () -> y.least(0, 0, NONE), NONE);
+        promise = 27;
+        due("fence(0, 38, -1, 0)", () -> y.fence(0, 38, -1L, 0), NONE);
+        due("fence(39, 39, 0, 0)", () -> y.fence(39, 39, 0L, 0), 38);
     }
 
     private static void count() {
