@@ -7,6 +7,8 @@ public final class EdgesTest extends Edges {
         TextEdges.all();
         RunEdges.all();
         FlowEdges.all();
+        BreakerEdges.all();
+        WatchEdges.all();
         endSentence();
         leave("each sentence holds");
     }
