@@ -21,7 +21,9 @@ final class TextEdges extends Edges {
         orders();
         bodies();
         numbers();
-        sumsAndSigns();
+        sums();
+        atomsAndSigns();
+        digits();
         wordsAndBlanks();
         emptyTexts();
         wrongBytes();
@@ -174,34 +176,9 @@ final class TextEdges extends Edges {
         allWrong(PLACE_PLACES, 0, "40", "41", "99", "040", "139", "999", "1000", "0039", "0000", "-1", "c1", ";", "?");
         due("order(0, 4)", () -> with("jump 39").order(0, 4), 39);
         due("order(0, 4)", () -> with("point c1 at 0").order(0, 4), 0);
-
-        sentence("ATOM: CELL or a NUMBER 0 to 999.");
-        allRight(ATOM_PLACES, "0", "999", "000", "c0", "c15");
-        allWrong(ATOM_PLACES, 0, "1000", "9999", "0000", "0999", "-1", "+1", "x", "at", ";", "?");
-        allWrong(ATOM_PLACES, 1, "c16", "c999", "c?");
-        due("said(false, 0)", () -> with("door 999").said(false, 0), 999);
-        due("said(false, 0)", () -> with("door 0").said(false, 0), 0);
-
-        sentence("NUMBER: 1 to 3 digits.");
-        due("said(false, 0)", () -> with("door 7").said(false, 0), 7);
-        due("said(false, 0)", () -> with("door 07").said(false, 0), 7);
-        due("said(false, 0)", () -> with("door 007").said(false, 0), 7);
-        due("said(false, 0)", () -> with("door 100").said(false, 0), 100);
-        due("said(false, 0)", () -> with("door 789").said(false, 0), 789);
-        wrongText("door 0007", 5);
-        wrongText("door 00000000000000000007", 5);
-        wrongText("door 4294967303", 5);
-        wrongText("door 18446744073709551617", 5);
-        wrongText("jump 00001", 5);
-        wrongText("entry 0001 stop", 6);
-        wrongText("door " + "0".repeat(395), 5);
-        wrongText("door c" + "1".repeat(394), 6);
-        // just beside the digits
-        wrongText("door /", 5);
-        wrongText("door :", 5);
     }
 
-    private static void sumsAndSigns() {
+    private static void sums() {
         sentence("SUM: ATOM [ OP ATOM ]; OP: + - *.");
         due("cell of one ATOM", () -> with("set c1 = 7;stop").cell(false, 1), 7);
         due("cell of 7 + 3", () -> with("set c1 = 7 + 3;stop").cell(false, 1), 10);
@@ -224,6 +201,15 @@ final class TextEdges extends Edges {
                 wrongText(text, b == ' ' || b == ';' ? 11 : 10);
             }
         }
+    }
+
+    private static void atomsAndSigns() {
+        sentence("ATOM: CELL or a NUMBER 0 to 999.");
+        allRight(ATOM_PLACES, "0", "999", "000", "c0", "c15");
+        allWrong(ATOM_PLACES, 0, "1000", "9999", "0000", "0999", "-1", "+1", "x", "at", ";", "?");
+        allWrong(ATOM_PLACES, 1, "c16", "c999", "c?");
+        due("said(false, 0)", () -> with("door 999").said(false, 0), 999);
+        due("said(false, 0)", () -> with("door 0").said(false, 0), 0);
 
         sentence("SIGN: < > =.");
         for (int b = 0; b < 256; b++) {
@@ -239,6 +225,26 @@ final class TextEdges extends Edges {
         wrongText("if 1 <> 2 jump 0", 6);
         wrongText("if < 2 jump 0", 3);
         wrongText("set c1 < 2", 7);
+    }
+
+    private static void digits() {
+        sentence("NUMBER: 1 to 3 digits.");
+        due("said(false, 0)", () -> with("door 7").said(false, 0), 7);
+        due("said(false, 0)", () -> with("door 07").said(false, 0), 7);
+        due("said(false, 0)", () -> with("door 007").said(false, 0), 7);
+        due("said(false, 0)", () -> with("door 100").said(false, 0), 100);
+        due("said(false, 0)", () -> with("door 789").said(false, 0), 789);
+        wrongText("door 0007", 5);
+        wrongText("door 00000000000000000007", 5);
+        wrongText("door 4294967303", 5);
+        wrongText("door 18446744073709551617", 5);
+        wrongText("jump 00001", 5);
+        wrongText("entry 0001 stop", 6);
+        wrongText("door " + "0".repeat(395), 5);
+        wrongText("door c" + "1".repeat(394), 6);
+        // just beside the digits
+        wrongText("door /", 5);
+        wrongText("door :", 5);
     }
 
     private static void wordsAndBlanks() {
