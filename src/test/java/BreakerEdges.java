@@ -410,6 +410,11 @@ final class BreakerEdges extends Edges {
         leastIs(cheap, 2, 0, 2);
         cheap.ticks(1, 2);
         leastIs(cheap, 2, 0, 1);
+        // KIND holds it, FLOW does not; and so for the second of two, of which the first is come to by the second
+        leastIs(broken(1, false, 5, "point c0 at 3;through c0 kind 1;entry 1 stop;door 5"), 1, 1, 1);
+        String two = "point c0 at 6;point c0 at 7;jump 4;entry 1 through c0 kind 2;point c1 at 7;through c1 kind 1;"
+                + "entry 2 stop;door 5";
+        leastIs(broken(2, false, 5, two), 2, 3, 1, 5, 1);
         // GRADES that are there now are not kept, and stay as they are
         JumpFence had = graded(broken(1, false, 5, "through c0;door 5"), 2, 0);
         due("reach(0, 0)", () -> had.reach(0, 0), 0);

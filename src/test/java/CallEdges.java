@@ -441,22 +441,41 @@ final class CallEdges extends Edges {
         due("load() behind a wrong text", x::load, 4);
         due("order(3, 0)", () -> x.order(3, 0), 2);
         due("order(3, 1)", () -> x.order(3, 1), NONE);
-        // nothing of a wrong text is left in what comes behind it, not even a GRADE
-        JumpFence y = with("stop");
-        for (String body : new String[] {"back", "through c0", "stop", "jump 1", "set c1 = 1"}) {
-            put(y, "entry 3 by c15 kind 3;point c14 at 39;set c13 = c12 * 999;foo");
-            argument("load() of a wrong text", y::load);
-            put(y, body);
-            int order = y.count(0);
-            due("load() of " + body, y::load, order + 1);
-            due("entry of " + body, () -> y.order(order, 1), NONE);
-            due("GRADE of " + body, () -> y.order(order, 2), 0);
-            due("KIND of " + body, () -> y.order(order, 3), 0);
-            due("PLACE of " + body, () -> y.order(order, 4), body.equals("jump 1") ? 1 : NONE);
+        nothingIsLeft();
+    }
+
+    /** Nothing of a wrong text is left in what comes behind it. */
+    private static void nothingIsLeft() {
+        String[] wrong = {"entry 3 by c15 kind 3", "set c13 = c12 * 999", "point c14 at 39", "if c1 < c2 jump 39",
+            "entry 2 through c3 kind 1", "door c9"};
+        String[] right = {"back", "through c0", "stop", "jump 1", "set c1 = 5", "set c2 = c3"};
+        for (String text : wrong) {
+            JumpFence y = with("jump 7");
+            for (String body : right) {
+                put(y, text + ";foo");
+                argument("load() of a wrong text", y::load);
+                put(y, body);
+                int order = y.count(0);
+                due("load() of " + body, y::load, order + 1);
+                due("entry of " + body, () -> y.order(order, 1), NONE);
+                due("GRADE of " + body, () -> y.order(order, 2), 0);
+                due("KIND of " + body, () -> y.order(order, 3), 0);
+                due("PLACE of " + body, () -> y.order(order, 4), body.equals("jump 1") ? 1 : NONE);
+            }
+            put(y, "stop");
+            y.load();
+            due("holds(14)", () -> y.holds(14), 0);
+            due("count(7)", () -> y.count(7), 1);
+            due("odd(1)", () -> y.odd(1), true);
+            JumpFence z = with("jump 1");
+            put(z, text + ";" + text + ";foo");
+            argument("load() of a wrong text", z::load);
+            put(z, "set c1 = 5;set c2 = c3;stop");
+            z.load();
+            z.bend(0, 3, 9);
+            due("cell(true, 1)", () -> z.cell(true, 1), 5);
+            due("cell(true, 2)", () -> z.cell(true, 2), 9);
         }
-        due("holds(14)", () -> y.holds(14), 0);
-        due("odd(13)", () -> y.odd(13), false);
-        due("odd(1)", () -> y.odd(1), true);
     }
 
     private static void fault() {
@@ -655,6 +674,7 @@ final class CallEdges extends Edges {
 
     private static void stepSaidCell() {
         sentence("The ORDER of a STEP of a RUN (from 0 on); NONE if there is none such.");
+        steps(graded(with("door 1;through c1"), 1, 1), false, 0);
         JumpFence x = with(BASE);
         steps(x, false, 0, 1, 5, 6, 2, 3);
         x.bend(1, 1, 7);
@@ -685,7 +705,15 @@ final class CallEdges extends Edges {
         due("said(false, 269)", () -> most.said(false, 269), 9);
         due("said(false, 270)", () -> most.said(false, 270), 1000000);
 
+        JumpFence stopped = graded(with("door 1;through c1"), 1, 1);
+        due("said(false, 0), at a GUARD", () -> stopped.said(false, 0), 1);
+        due("said(false, 1), at a GUARD", () -> stopped.said(false, 1), 1000000);
+
         sentence("What a CELL is at the end of a RUN.");
+        JumpFence guard = graded(with("set c0 = c0 + 1;through c1"), 1, 1);
+        due("cell(false, 0), at a GUARD", () -> guard.cell(false, 0), 1);
+        guard.grade(1, 0);
+        due("cell(false, 0), without one", () -> guard.cell(false, 0), 150);
         JumpFence y = graded(with("set c0 = 3;set c15 = 4;through c1;set c0 = 5;stop"), 1, 2);
         due("cell(false, 0), at a GUARD", () -> y.cell(false, 0), 3);
         due("cell(false, 15), at a GUARD", () -> y.cell(false, 15), 4);

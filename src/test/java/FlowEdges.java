@@ -143,6 +143,8 @@ final class FlowEdges extends Edges {
         landings("call 2;call 2;back", 2, true, 6);
         landings("point c0 at 3;by c0;stop;back", 3, true, 4);
         landings("by c0;stop;back", 2, true, 0);
+        landings("back;call 0;stop", 0, true, 4);
+        landings("jump 1;back;call 0;stop", 1, true, 8);
         // by of what is ODD lands by KIND
         landings("set c0 = 4;by c0 kind 1;stop;back;entry 1 back", 3, true, 0);
         landings("set c0 = 4;by c0 kind 1;stop;back;entry 1 back", 4, true, 4);

@@ -52,6 +52,7 @@ final class WatchEdges extends Edges {
         marksAre(1, "12", "34", "23");
         marksAre(1, "12", "23", "34");
         marksAre(2, "12", "34", "56", "23");
+        marksAre(2, "12", "34", "56", "23", "5");
         marksAre(1, "1", "2", "3", "4", "5", "12345");
         marksAre(1, "12345", "1", "2", "3", "4", "5");
         marksAre(3, "12", "34", "5", "1", "3", "2");
@@ -96,6 +97,8 @@ final class WatchEdges extends Edges {
         // those that meet are together however many heaps there may be
         joinedAre(throughs("12", "23"), 2, 2, 2, 2, 2, 2, 2, 2, 2, 2, 2, 2, 2, 2, 2, 2);
         joinedAre(throughs("1", "2", "12"), 2, 2, 2, 2, 2, 2, 2, 2, 2, 2, 2, 2, 2, 2, 2, 2);
+        joinedAre(throughs("1", "1", "3", "5", "13"), 9, 3, 3, 3, 3, 3, 3, 3, 3, 3, 3, 3, 3, 3, 3, 3);
+        joinedAre(throughs("12", "34", "5", "6", "23"), 22, 8, 6, 6, 6, 6, 6, 6, 6, 6, 6, 6, 6, 6, 6, 6);
         // which ones are together hangs on how much they have
         joinedAre(throughs("1", "2", "345"), 4 + 4 + 2, 2);
         joinedAre(throughs("345", "1", "2"), 4 + 4 + 2, 2);
@@ -352,7 +355,7 @@ final class WatchEdges extends Edges {
         for (int grade = 1; grade <= 3; grade++) {
             x.ticks(grade, 50);
         }
-        put(x, "entry 1 set c1 = 7;point c2 at 1;through c1");
+        put(x, "entry 1 set c1 = 7;point c2 at 1;through c1;set c0 = 1;set c15 = 1;point c0 at 1;call 2;stop");
         x.load();
         put(x, "jump 40");
         argument("load()", x::load);
@@ -363,7 +366,13 @@ final class WatchEdges extends Edges {
             due("order(2, 2)", () -> x.order(2, 2), 1);
             index("order(3, 0)", () -> x.order(3, 0));
             due("holds(2)", () -> x.holds(2), 0);
-            due("odd(1)", () -> x.odd(1), false);
+            due("holds(0)", () -> x.holds(0), 0);
+            for (int c : new int[] {0, 1, 15}) {
+                due("odd(" + c + ")", () -> x.odd(c), false);
+            }
+            due("landings(2, false)", () -> x.landings(2, false), 2);
+            due("landings(2, true)", () -> x.landings(2, true), 2);
+            due("lets(2)", () -> x.lets(2), 2);
             runs(x, true, 1, 1, 0, 2, 0, 0, 0, 0);
             due("closed(0)", () -> x.closed(0), 7);
             due("fault()", x::fault, 5);
