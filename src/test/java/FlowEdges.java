@@ -64,6 +64,8 @@ final class FlowEdges extends Edges {
         due("holds(3)", () -> x.holds(3), 0);
         due("holds(4)", () -> x.holds(4), 0);
         due("holds(5)", () -> x.holds(5), 0);
+        JumpFence first = with("set c9 = c8;point c8 at 0");
+        due("holds(9) of PLACE 0 alone", () -> first.holds(9), 1);
         // a chain through all CELLS, told the wrong way round, and one that comes back to its begin
         StringBuilder chain = new StringBuilder();
         for (int k = 15; k > 0; k--) {

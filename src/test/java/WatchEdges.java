@@ -426,5 +426,19 @@ final class WatchEdges extends Edges {
         counts(all, 40, 40, 1, 8, 6, 8, 0, 0, 48, 0);
         due("cell(true, 7)", () -> all.cell(true, 7), 8);
         due("order(39, 2)", () -> all.order(39, 2), 2);
+        imageOfAtoms();
+    }
+
+    /** Both ATOMS of an ORDER come back as they were, also where a text came behind THE IMAGE. */
+    private static void imageOfAtoms() {
+        JumpFence x = with("set c1 = 9 - 2;if c1 > 3 jump 3;stop;set c2 = c1 * 2;if 14 = c2 jump 6;stop;door c2");
+        x.image();
+        put(x, "set c5 = 1 + c9;if c7 < 999 jump 0;stop");
+        x.load();
+        due("back()", x::back, true);
+        steps(x, false, 0, 1, 3, 4, 6);
+        due("said(false, 0)", () -> x.said(false, 0), 14);
+        due("cell(false, 1)", () -> x.cell(false, 1), 7);
+        due("odd(5)", () -> x.odd(5), false);
     }
 }
